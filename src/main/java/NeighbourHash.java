@@ -86,9 +86,8 @@ public final class NeighbourHash {
     }
 
     public int add(int key, int value) throws IllegalArgumentException, IllegalStateException {
-        if (!isKey(key) || !isValue(value)) {
-            throw new IllegalArgumentException("key or value out of range");
-        }
+        needKey(key);
+        needValue(value);
         if (now.bucketWith(key) != NONE) {
             throw new IllegalStateException("there is an entry with the key");
         }
@@ -103,9 +102,8 @@ public final class NeighbourHash {
     }
 
     public int put(int key, int value) throws IllegalArgumentException, IllegalStateException {
-        if (!isKey(key) || !isValue(value)) {
-            throw new IllegalArgumentException("key or value out of range");
-        }
+        needKey(key);
+        needValue(value);
         int before = now.valueIn(now.bucketWith(key));
         history.mark(now);
         if (!now.store(key, value)) {
@@ -253,37 +251,27 @@ public final class NeighbourHash {
     }
 
     public int keyAt(int bucket) throws IndexOutOfBoundsException {
-        if (!now.hasBucket(bucket)) {
-            throw new IndexOutOfBoundsException("no such bucket");
-        }
+        needBucket(bucket);
         return now.keyIn(bucket);
     }
 
     public int valueAt(int bucket) throws IndexOutOfBoundsException {
-        if (!now.hasBucket(bucket)) {
-            throw new IndexOutOfBoundsException("no such bucket");
-        }
+        needBucket(bucket);
         return now.valueIn(bucket);
     }
 
     public int hopBits(int bucket) throws IndexOutOfBoundsException {
-        if (!now.hasBucket(bucket)) {
-            throw new IndexOutOfBoundsException("no such bucket");
-        }
+        needBucket(bucket);
         return now.hopsIn(bucket);
     }
 
     public int entriesOf(int bucket) throws IndexOutOfBoundsException {
-        if (!now.hasBucket(bucket)) {
-            throw new IndexOutOfBoundsException("no such bucket");
-        }
+        needBucket(bucket);
         return Integer.bitCount(now.hopsIn(bucket));
     }
 
     public int freeDistance(int bucket) throws IndexOutOfBoundsException {
-        if (!now.hasBucket(bucket)) {
-            throw new IndexOutOfBoundsException("no such bucket");
-        }
+        needBucket(bucket);
         return now.stepsToFree(bucket);
     }
 
@@ -298,37 +286,27 @@ public final class NeighbourHash {
     // ---- entries
 
     public int homeOf(int key) throws IllegalArgumentException {
-        if (!isKey(key)) {
-            throw new IllegalArgumentException("key out of range");
-        }
+        needKey(key);
         return now.homeFor(key);
     }
 
     public int bucketOf(int key) throws IllegalArgumentException {
-        if (!isKey(key)) {
-            throw new IllegalArgumentException("key out of range");
-        }
+        needKey(key);
         return now.bucketWith(key);
     }
 
     public int valueOf(int key) throws IllegalArgumentException {
-        if (!isKey(key)) {
-            throw new IllegalArgumentException("key out of range");
-        }
+        needKey(key);
         return now.valueIn(now.bucketWith(key));
     }
 
     public int distanceOf(int key) throws IllegalArgumentException {
-        if (!isKey(key)) {
-            throw new IllegalArgumentException("key out of range");
-        }
+        needKey(key);
         return now.stepsFromHome(now.bucketWith(key));
     }
 
     public int looksFor(int key) throws IllegalArgumentException {
-        if (!isKey(key)) {
-            throw new IllegalArgumentException("key out of range");
-        }
+        needKey(key);
         return now.looksUntil(key);
     }
 
@@ -341,18 +319,14 @@ public final class NeighbourHash {
     }
 
     public int rank(int key) throws IllegalArgumentException {
-        if (!isKey(key)) {
-            throw new IllegalArgumentException("key out of range");
-        }
+        needKey(key);
         return now.countBelow(key);
     }
 
     // ---- reasons and predictions
 
     public int whyNoAdd(int key) throws IllegalArgumentException {
-        if (!isKey(key)) {
-            throw new IllegalArgumentException("key out of range");
-        }
+        needKey(key);
         if (now.bucketWith(key) != NONE) {
             return PRESENT;
         }
@@ -360,16 +334,12 @@ public final class NeighbourHash {
     }
 
     public int placeFor(int key) throws IllegalArgumentException {
-        if (!isKey(key)) {
-            throw new IllegalArgumentException("key out of range");
-        }
+        needKey(key);
         return tryToInsert(key);
     }
 
     public int movesFor(int key) throws IllegalArgumentException {
-        if (!isKey(key)) {
-            throw new IllegalArgumentException("key out of range");
-        }
+        needKey(key);
         if (tryToInsert(key) == NONE) {
             return NONE;
         }
@@ -377,16 +347,12 @@ public final class NeighbourHash {
     }
 
     public int bucketsAfter(int key) throws IllegalArgumentException {
-        if (!isKey(key)) {
-            throw new IllegalArgumentException("key out of range");
-        }
+        needKey(key);
         return tryToInsert(key) == NONE ? NONE : trial.buckets;
     }
 
     public int pullsFor(int key) throws IllegalArgumentException {
-        if (!isKey(key)) {
-            throw new IllegalArgumentException("key out of range");
-        }
+        needKey(key);
         if (now.bucketWith(key) == NONE) {
             return NONE;
         }
@@ -482,6 +448,26 @@ public final class NeighbourHash {
 
     public int reportByte(int index) {
         return report.signAt(index);
+    }
+
+    // ---- what a call needs
+
+    private static void needKey(int key) {
+        if (!isKey(key)) {
+            throw new IllegalArgumentException("key out of range");
+        }
+    }
+
+    private static void needValue(int value) {
+        if (!isValue(value)) {
+            throw new IllegalArgumentException("value out of range");
+        }
+    }
+
+    private void needBucket(int bucket) {
+        if (!now.hasBucket(bucket)) {
+            throw new IndexOutOfBoundsException("no such bucket");
+        }
     }
 
     // ---- ranges and the trial
@@ -734,9 +720,8 @@ public final class NeighbourHash {
         private int displaceInto(int free) {
             for (int back = near - 1; back >= 1; back--) {
                 int home = (free - back) & (buckets - 1);
-                int inFront = hopsIn(home) & ((1 << back) - 1);
                 for (int steps = 0; steps < back; steps++) {
-                    if ((inFront >> steps & 1) != 0) {
+                    if ((hopsIn(home) >> steps & 1) != 0) {
                         shift(home, steps, back);
                         displaced++;
                         return back - steps;
@@ -1116,7 +1101,6 @@ public final class NeighbourHash {
             input.position = 0;
             depth = 0;
             executed = 0;
-            command = null;
             opened = false;
             ended = false;
             errorKind = 0;

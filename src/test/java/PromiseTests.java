@@ -204,7 +204,7 @@ public final class PromiseTests {
         String[] wrongTokens = {"^", "  \n^", "^add 1 1;", "^;", "^tables 8 3 1;", "table^;", "table ^x", "table 8 3^;",
             "table 8 3 1^", "table 8 3 1 ^", "table 8 3 1 ^1;", "table ^00008 3 1;", t + "^foo;", t + "^table 8 3 1;", t + "^;", t + "^)",
             t + "^5;", t + "add ^x;", t + "add 1^;", t + "add 1 2 ^3;", t + "add 1 ^00001;", t + "add ^10000 1;", t + "^ADD 1 1;",
-            t + "^adds 1 1;", t + "^ad 1 1;", t + "add 1 1;^\t", t + "add 1 1^\r;", t + "add 1 1;^" + (char) 228, t + "^" + (char) 0,
+            t + "^adds 1 1;", t + "^ad 1 1;", t + "^clearz;", t + "^aclear;", t + "add 1 1;^\t", t + "add 1 1^\r;", t + "add 1 1;^" + (char) 228, t + "^" + (char) 0,
             t + "pull^(", t + "repeat 2^;", t + "repeat ^(", t + "repeat 2(pull^)", t + "repeat 2(pull;^", t + "repeat 2(^",
             t + "repeat 2(pull;)^", t + "repeat 2(pull;)^pull;", t + "repeat 2(^(", t + "add 1 1;add 1 2^", t + "add 1 1;add 1 2 ^",
             t + "row 1 1^;", t + "remove ^;", t + "add 1 1^,"};
