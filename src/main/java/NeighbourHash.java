@@ -602,7 +602,7 @@ public final class NeighbourHash {
         /** False if a new entry cannot be added. */
         boolean store(int key, int value) {
             int bucket = bucketWith(key);
-            if (bucket >= 0 && bucket < values.length) {
+            if (hasBucket(bucket)) {
                 values[bucket] = value;
                 return true;
             }
@@ -612,14 +612,12 @@ public final class NeighbourHash {
         /** The value of the entry that is removed, NONE if there is none. */
         int take(int key) {
             int bucket = bucketWith(key);
-            if (bucket < 0 || bucket >= keys.length) {
+            int home = homeFor(key);
+            if (!hasBucket(bucket) || !hasBucket(home)) {
                 return NONE;
             }
             int value = values[bucket];
-            int home = homeFor(key);
-            if (home >= 0 && home < hops.length) {
-                hops[home] &= ~(1 << stepsFromHome(bucket));
-            }
+            hops[home] &= ~(1 << stepsFromHome(bucket));
             keys[bucket] = NONE;
             values[bucket] = NONE;
             entries--;
@@ -706,7 +704,7 @@ public final class NeighbourHash {
                 steps = nearer == 0 ? NONE : steps - nearer;
             }
             int bucket = (home + steps) & (buckets - 1);
-            if (steps < 0 || steps >= near || home < 0 || home >= hops.length || bucket >= keys.length) {
+            if (steps < 0 || steps >= near || !hasBucket(home) || !hasBucket(bucket)) {
                 return NONE;
             }
             keys[bucket] = key;
@@ -761,7 +759,10 @@ public final class NeighbourHash {
         private void shift(int home, int from, int to) {
             int source = (home + from) & (buckets - 1);
             int target = (home + to) & (buckets - 1);
-            if (source >= keys.length || target >= keys.length || home < 0 || home >= hops.length) {
+            if (source < 0 || source >= keys.length || target < 0 || target >= keys.length) {
+                return;
+            }
+            if (home < 0 || home >= hops.length) {
                 return;
             }
             keys[target] = keys[source];
@@ -774,19 +775,19 @@ public final class NeighbourHash {
         // ---- buckets
 
         boolean hasBucket(int bucket) {
-            return bucket >= 0 && bucket < buckets;
+            return bucket >= 0 && bucket < buckets && bucket < MOST_BUCKETS;
         }
 
         int keyIn(int bucket) {
-            return bucket >= 0 && bucket < buckets && bucket < keys.length ? keys[bucket] : NONE;
+            return bucket >= 0 && bucket < buckets && bucket < MOST_BUCKETS ? keys[bucket] : NONE;
         }
 
         int valueIn(int bucket) {
-            return bucket >= 0 && bucket < buckets && bucket < values.length ? values[bucket] : NONE;
+            return bucket >= 0 && bucket < buckets && bucket < MOST_BUCKETS ? values[bucket] : NONE;
         }
 
         int hopsIn(int bucket) {
-            return bucket >= 0 && bucket < buckets && bucket < hops.length ? hops[bucket] : 0;
+            return bucket >= 0 && bucket < buckets && bucket < MOST_BUCKETS ? hops[bucket] : 0;
         }
 
         /** The distance of the next free bucket, NONE if no bucket is free. */
