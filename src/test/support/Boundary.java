@@ -11,7 +11,7 @@ final class Boundary {
     static final int[] SIZES = {8, 16, 32, 64};
 
     static final String NEW = "1:1 2:17 3:3 4:4 5:12";
-    static final String NEW_STATE = "8 3 1 true; 1:1=10 2:17=13 3:3=12 4:4=14 5:12=15; hops 0 3 0 1 3 0 0 0; 1 3 0 6 1";
+    static final String NEW_STATE = "8 3 1 true; 5 entries 1:1=10 2:17=13 3:3=12 4:4=14 5:12=15; hops 0 3 0 1 3 0 0 0; 1 3 0 6 1";
     /** Three entries of the home 7, which lie in the buckets 7, 0 and 1. */
     static final String ROUND = "table 8 3 1;add 7 1;add 15 2;add 23 3;";
     /** A third key with the same home (they are all 5 modulo 997) has no place with H 2, however many buckets there are. */
@@ -185,13 +185,13 @@ final class Boundary {
         for (int b = 0; b < buckets; b++) {
             int key = x.keyAt(b);
             if (key != NONE) {
-                entries.append(entries.length() == 0 ? "; " : " ").append(b).append(':').append(key).append('=').append(x.valueAt(b));
+                entries.append(' ').append(b).append(':').append(key).append('=').append(x.valueAt(b));
             }
             if (buckets <= 16) {
                 hops.append(' ').append(x.hopBits(b));
             }
         }
-        return settings(x) + entries + "; " + hops + "; " + counters(x);
+        return settings(x) + "; " + x.entryCount() + " entries" + entries + "; " + hops + "; " + counters(x);
     }
 
     static String report(NeighbourHash x) {

@@ -24,32 +24,35 @@ final class BuildingCases {
         String setup = "table 8 3 1;add 7 71;add 15 72;add 23 73;";
         Boundary.test(12, EMPTY_FIRST, "nothing is left where the entries were", () ->
             Boundary.due(Boundary.state(Boundary.after(setup + "grow;")),
-                "16 3 1 false; 7:23=73 8:7=71 15:15=72; hops 0 0 0 0 0 0 0 3 0 0 0 0 0 0 0 1; 0 0 1 3 0"));
+                "16 3 1 false; 3 entries 7:23=73 8:7=71 15:15=72; hops 0 0 0 0 0 0 0 3 0 0 0 0 0 0 0 1; 0 0 1 3 0"));
         Boundary.test(9, EMPTY_FIRST, "nothing is left where the entries were", () ->
             Boundary.due(Boundary.state(Boundary.after(setup + "near 2;")),
-                "16 2 1 false; 7:23=73 8:7=71 15:15=72; hops 0 0 0 0 0 0 0 3 0 0 0 0 0 0 0 1; 0 0 1 3 0"));
+                "16 2 1 false; 3 entries 7:23=73 8:7=71 15:15=72; hops 0 0 0 0 0 0 0 3 0 0 0 0 0 0 0 1; 0 0 1 3 0"));
         Boundary.test(10, EMPTY_FIRST, "nothing is left where the entries were", () ->
             Boundary.due(Boundary.state(Boundary.after(setup + "times 2;")),
-                "8 3 2 false; 0:7=71 6:15=72 7:23=73; hops 0 0 0 0 0 0 7 0; 0 0 0 3 0"));
+                "8 3 2 false; 3 entries 0:7=71 6:15=72 7:23=73; hops 0 0 0 0 0 0 7 0; 0 0 0 3 0"));
         Boundary.test(5, EMPTY_FIRST, "nothing is left where the entries were", () ->
             Boundary.due(Boundary.state(Boundary.after(setup + "add 31 74;")),
-                "16 3 1 false; 0:31=74 7:23=73 8:7=71 15:15=72; hops 0 0 0 0 0 0 0 3 0 0 0 0 0 0 0 3; 0 0 1 4 0"));
+                "16 3 1 false; 4 entries 0:31=74 7:23=73 8:7=71 15:15=72; hops 0 0 0 0 0 0 0 3 0 0 0 0 0 0 0 3; 0 0 1 4 0"));
     }
 
     private static void order() {
-        Ways.nearing(ORDER, "bucket 0 goes before bucket 7", "table 8 3 1;add 7 1;add 15 2;", 3, 8, 0, 0, "0:7 7:15");
-        Ways.nearing(ORDER, "not the order of adding, nor of the keys", "table 8 3 1;add 9 1;add 1 1;remove 9;add 17 1;", 6, 8, 0, 0, "1:17 2:1");
+        Ways.building(ORDER, "bucket 0 goes before bucket 7", "table 8 3 1;add 7 1;add 15 2;", 3, 8, 0, 0, "0:7 7:15");
+        Ways.building(ORDER, "not the order of adding, nor of the keys", "table 8 3 1;add 9 1;add 1 1;remove 9;add 17 1;", 6, 8, 0, 0, "1:17 2:1");
         Ways.timing(ORDER, "bucket 0 goes before bucket 7", "table 8 3 1;add 7 1;add 15 2;", 1, 8, 0, 0, "0:7 7:15");
         Ways.timing(ORDER, "the homes are other ones", "table 8 3 1;add 7 1;add 15 2;", 3, 8, 0, 0, "5:15 6:7");
         Ways.doubling(ORDER, "bucket 0 goes before bucket 7", "table 8 3 1;add 7 1;add 23 2;", 16, 1, 0, "7:23 8:7");
         Ways.doubling(ORDER, "not the order of adding, nor of the keys", "table 8 3 1;add 17 1;add 1 1;remove 17;add 33 1;", 16, 1, 0, "1:33 2:1");
-        Ways.placing(ORDER, "bucket 0 goes before bucket 7, the new entry comes last", "table 8 3 1;add 7 1;add 23 1;add 39 1;",
-            15, 15, 16, 0, 0, "7:23 8:39 9:7 15:15");
+        Ways.adding(ORDER, "bucket 0 goes before bucket 7, the new entry comes last", "table 8 3 1;add 7 1;add 23 1;add 39 1;",
+            15, 15, 16, 0, "7:23 8:39 9:7 15:15");
         // In 16 buckets the order would be 31, 15, 47.
-        Ways.placing(ORDER, "when it grows twice at once, the order is that before the change", "table 8 3 1;add 15 1;add 47 1;add 31 1;",
-            63, 0, 32, 0, 0, "0:63 15:47 16:15 31:31");
+        Ways.adding(ORDER, "when it grows twice at once, the order is that before the change", "table 8 3 1;add 15 1;add 47 1;add 31 1;",
+            63, 0, 32, 0, "0:63 15:47 16:15 31:31");
+        // In the other order 2 would get its home in 16 buckets, and 33 would get bucket 2.
+        Ways.adding(ORDER, "the place of the new entry, too", "table 8 3 1;row 1 16 2;add 2 1;row 4 1 4;add 0 1;", 33, 3, 16, 3,
+            "0:0 1:1 2:17 3:33 4:2 5:5 6:4 7:7 8:6");
         // In 16 buckets 47, 15 and 31 have the home 15, and H is 2 then.
-        Ways.nearing(ORDER, "when it grows twice at once, the order is that before the change", "table 8 3 1;add 15 1;add 47 1;add 31 1;",
+        Ways.building(ORDER, "when it grows twice at once, the order is that before the change", "table 8 3 1;add 15 1;add 47 1;add 31 1;",
             2, 32, 2, 0, "15:47 16:15 31:31");
     }
 
@@ -94,9 +97,15 @@ final class BuildingCases {
         Ways.notTimes(MOST_64, "from 8 buckets", "table 8 2 1;row 1 1 3;", 64);
         // Their homes are 53, 21 and 53 with the multiplier 1, but all 5 with the multiplier 2.
         Ways.notTimes(MOST_64, "the only other multiplier", "table 64 2 1;row 501 32 3;", 2);
+        // With 1 the sum is 3, and with 2 three entries have the home 5.
+        Boundary.test(46, MOST_64, "a multiplier that fails is passed over", () ->
+            Boundary.due(Boundary.after("table 64 2 1;row 501 32 3;row 470 64 2;row 440 64 2;").bestMultiplier(2), 1));
         Ways.notDoubled(MOST_64, "no entries", "table 64 3 1;");
         Ways.notDoubled(MOST_64, "all buckets are full", Boundary.FULL_64);
         Ways.doubling(MOST_64, "64 itself", "table 32 3 1;add 1 1;add 33 1;", 64, 1, 0, "1:1 33:33");
+        Ways.placing(MOST_64, "64 itself", "table 32 2 1;row 1 32 2;", 65, 2, 64, 0, 0, "1:1 2:65 33:33");
+        Ways.nearing(MOST_64, "64 itself", "table 32 3 1;row 1 32 3;", 2, 64, 1, 0, "1:1 2:65 33:33");
+        Ways.timing(MOST_64, "64 itself", "table 32 2 1;row 1 1 3;", 32, 64, 1, 0, "0:2 32:1 33:3");
         Ways.noPlace(MOST_64, "from 8 buckets", Boundary.STUCK, 1999);
         Ways.noPlace(MOST_64, "from 16 buckets", "table 16 2 1;row 5 997 2;", 1999);
         Ways.noPlace(MOST_64, "from 32 buckets", "table 32 2 1;row 5 997 2;", 1999);

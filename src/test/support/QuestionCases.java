@@ -276,7 +276,8 @@ final class QuestionCases {
         asked(31, home, "of two with one each the smaller", "table 8 3 1;add 7 1;add 2 1;", question, 0, 2);
         asked(31, home, "of two with two each the smaller", "table 8 3 1;row 3 8 2;row 6 8 2;add 1 1;", question, 0, 3);
         asked(31, home, "the greater one has more", "table 8 3 1;add 2 1;row 6 8 2;", question, 0, 6);
-        asked(31, home, "of the most entries, not of the farthest", "table 8 3 1;row 1 1 2;row 9 8 1;row 5 8 2;add 6 1;", question, 0, 1);
+        asked(31, home, "of the most entries, not of the greatest hop bits", "table 8 3 1;row 1 8 2;row 5 8 3;remove 5;remove 13;", question, 0, 1);
+        asked(31, home, "of the most entries, the greater one with smaller hop bits", "table 8 3 1;row 1 8 3;remove 1;remove 9;row 5 8 2;", question, 0, 5);
         asked(31, home, "all are homes of one", Boundary.FULL_8, question, 0, 0);
         asked(31, home, "its own bucket is free", "table 8 3 1;row 4 8 3;remove 4;add 1 1;", question, 0, 4);
     }
@@ -438,7 +439,9 @@ final class QuestionCases {
         asked(42, returns, "four", "table 8 2 1;row 1 1 5;", NeighbourHash::movesFor, 9, 4);
         asked(42, returns, "it would grow, after some were displaced in vain", "table 8 2 1;row 0 8 2;row 2 1 2;", NeighbourHash::movesFor, 16, 0);
         asked(42, returns, "it would grow, and some be displaced in the new table", "table 8 2 1;row 1 1 2;add 17 1;", NeighbourHash::movesFor, 33, 0);
-        asked(42, returns, "it would grow, and the moves before were more", "table 8 2 1;row 1 1 5;add 9 1;", NeighbourHash::movesFor, 17, 0);
+        asked(42, returns, "it would grow once, and one be displaced in the new table", "table 8 2 1;row 1 8 2;add 2 1;", NeighbourHash::movesFor, 17, 0);
+        asked(42, returns, "it would grow once, and none be displaced, but one was before", "table 8 2 1;row 1 1 2;add 9 1;", NeighbourHash::movesFor, 25, 0);
+        asked(42, returns, "it would grow, and the moves before were as many", "table 8 2 1;row 1 1 5;add 9 1;", NeighbourHash::movesFor, 17, 0);
         asked(42, returns, "there is one", "table 8 3 1;add 1 1;", NeighbourHash::movesFor, 1, Boundary.NONE);
         asked(42, returns, "no place", Boundary.STUCK, NeighbourHash::movesFor, 1999, Boundary.NONE);
         asked(42, returns, "no place after some were displaced in vain", "table 64 2 1;row 0 64 2;row 2 1 2;", NeighbourHash::movesFor, 128, Boundary.NONE);
@@ -527,6 +530,7 @@ final class QuestionCases {
             NeighbourHash x = Boundary.after("table 16 3 1;row 1 16 2;add 2 3;");
             Boundary.due(x.bestMultiplier(1) + " " + x.bestMultiplier(2) + " " + x.bestMultiplier(3), "1 2 2");
         });
+        Boundary.test(46, most, "1 is tried, too", () -> Boundary.due(Boundary.after("table 8 3 9;row 1 1 3;").bestMultiplier(30), 1));
         Boundary.test(46, most, "30 is tried", () -> Boundary.due(thirty().bestMultiplier(30), 30));
         Boundary.test(46, most, "30 is not tried", () -> Boundary.due(thirty().bestMultiplier(29) != 30, true));
         Boundary.test(46, "Throws `IllegalArgumentException` if `most` is out of range", "0, 31 and others", () -> {
@@ -705,7 +709,7 @@ final class QuestionCases {
         report(writes, "over the end", Boundary.ROUND, "15+1 23+2 . . . . . 7");
         report(writes, "a full table", Boundary.FULL_8, "0 1 2 3 4 5 6 7");
         report(writes, "64 free buckets", "table 64 3 1;", ". ".repeat(63) + ".");
-        report(writes, "the longest one", "table 64 6 1;" + "row 4985 1 20;row 5005 1 20;row 5025 1 20;row 5045 1 4;", longest());
+        report(writes, "the longest one", "table 64 2 1;add 1994 1;row 4985 1 20;row 5005 1 20;row 5025 1 20;row 5045 1 3;remove 1994;add 5048 1;", longest());
         Boundary.test(55, writes, "in place of a longer one", () -> {
             NeighbourHash x = new NeighbourHash();
             Boundary.due(x.writeTable(), 21);
@@ -726,11 +730,11 @@ final class QuestionCases {
         });
     }
 
-    /** Keys of four digits in all 64 buckets; 4985 is 0 modulo 997. */
+    /** Keys of four digits in all 64 buckets, each one behind its home: 447 bytes. 4985 is 0 modulo 997. */
     private static String longest() {
-        StringBuilder text = new StringBuilder();
-        for (int i = 0; i < 64; i++) {
-            text.append(i == 0 ? "" : " ").append(4985 + i);
+        StringBuilder text = new StringBuilder("5048+1");
+        for (int i = 0; i < 63; i++) {
+            text.append(' ').append(4985 + i).append("+1");
         }
         return text.toString();
     }

@@ -115,6 +115,12 @@ final class ScriptCases {
         table(TOKENS, "4 digits each", "table 0016 0003 0001;row 9999 0999 0001;", "13:9999");
         errors(TOKENS, "words that only begin, or end, like a word", 1, "^tabl 8 3 1;", "^tables 8 3 1;", T + "^ad 1 1;", T + "^adds 1 1;",
             T + "^xadd 1 1;", T + "^pulll;", T + "^repeatt 2();", T + "^addadd 1 1;", T + "^a;", T + "^z;");
+        errors(TOKENS, "words with another first, middle or last letter", 1, "^fable 8 3 1;", "^tamle 8 3 1;", "^tablo 8 3 1;", T + "^odd 1 1;", T + "^aid 1 1;",
+            T + "^ads 1 1;", T + "^but 1 1;", T + "^pot 1 1;", T + "^puz 1 1;", T + "^low 1 1 1;", T + "^raw 1 1 1;", T + "^rob 1 1 1;", T + "^demove 1;",
+            T + "^rename 1;", T + "^removal 1;", T + "^rear 3;", T + "^noar 3;", T + "^neat 3;", T + "^dimes 3;", T + "^tiles 3;", T + "^timed 3;", T + "^full;",
+            T + "^pall;", T + "^puls;", T + "^die;", T + "^lee;", T + "^lit;", T + "^prow;", T + "^glow;", T + "^grew;", T + "^blear;", T + "^cleat;",
+            T + "^depeat 2();", T + "^repent 2();", T + "^repeal 2();");
+        errors(TOKENS, "the first and the last letter of the alphabet belong to a word", 1, T + "^adda 1 1;", T + "^addz 1 1;", T + "^zadd 1 1;");
         errors(TOKENS, "a word is not broken off", 1, T + "^pulllie;", T + "^addput 1 1;");
         errors(TOKENS, "great letters", 1, "^Table 8 3 1;", T + "^ADD 1 1;", T + "add^D 1 1;");
         errors(TOKENS, "the signs next to the letters and the digits", 1, T + "^`;", T + "^{;", T + "pull^`;", T + "pull^{;", T + "add ^/1 1;",
@@ -140,6 +146,12 @@ final class ScriptCases {
             Boundary.due(Boundary.after(T + "pull;").isPulling(), true);
             Boundary.due(Boundary.after(T + "pull;lie;").isPulling(), false);
             Boundary.due(Boundary.after(T + "lie;pull;").isPulling(), true);
+        });
+        Boundary.test(4, STAND_FOR, "the other commands leave pulling as it is", () -> {
+            for (String command : new String[] {"add 5 5;", "put 5 5;", "put 1 5;", "row 1 1 9;", "remove 1;", "near 4;", "times 5;", "grow;", "clear;", "repeat 2();"}) {
+                Boundary.due(Boundary.after(T + "add 1 1;pull;" + command).isPulling(), true);
+                Boundary.due(Boundary.after(T + "add 1 1;lie;" + command).isPulling(), false);
+            }
         });
         Boundary.test(24, STAND_FOR, "pull, lie", () -> {
             Boundary.due(Boundary.after(T + "pull;").isPulling(), true);
@@ -199,9 +211,9 @@ final class ScriptCases {
 
     private static void wrongTokens() {
         errors(KIND_1_TOKEN, "for a number", 1, "table ^x", "table 8 ^; 1;", "table 8 3^;", T + "add ^x 1;", T + "add 1^;", T + "add ^;", T + "row 1 1^;",
-            T + "remove^;", T + "near^;", T + "times ^(", T + "repeat ^(pull;);");
+            T + "remove^;", T + "remove^)", T + "near^;", T + "times ^(", T + "repeat ^(pull;);");
         errors(KIND_1_TOKEN, "for a semicolon", 1, "table 8 3 1 ^1;", "table 8 3 1 ^add 1 1;", T + "add 1 1 ^1;", T + "pull ^1;", T + "lie ^lie;", T + "grow ^2;",
-            T + "clear^(", T + "row 1 1 1 ^1;", T + "remove^)", T + "near 3 ^3;");
+            T + "clear^(", T + "row 1 1 1 ^1;", T + "add 1 1;remove 1^)", T + "near 3 ^3;");
         errors(KIND_1_TOKEN, "for a command", 1, T + "^foo;", T + "^;", T + "^5;", T + "^(", T + "^)", T + "pull;^;", T + "repeat 1(^;);", T + "repeat 1(^5;);");
         // Nothing is executed before its semicolon: the entry with the key would be an error of kind 3 there.
         errors(KIND_1_TOKEN, "a command without its semicolon is not executed", 1, T + "add 1 1;add 1 1 ^add", T + "add 1 1;add 1 1^)");

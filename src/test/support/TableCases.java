@@ -106,7 +106,8 @@ final class TableCases {
         Boundary.test(27, BEHIND, "the home is the last bucket", () -> Boundary.due(Boundary.after(Boundary.ROUND).hopBits(7), 7));
         Boundary.test(28, BEHIND, "the home is the last bucket", () -> Boundary.due(Boundary.after(Boundary.ROUND).entriesOf(7), 3));
         Boundary.test(29, BEHIND, "the next free one is behind bucket 0", () -> Boundary.due(Boundary.after(Boundary.ROUND).freeDistance(7), 3));
-        Boundary.test(31, BEHIND, "the home is the last bucket", () -> Boundary.due(Boundary.after(Boundary.ROUND).fullestHome(), 7));
+        Boundary.test(31, BEHIND, "the home is the last bucket", () ->
+            Boundary.due(Boundary.after(Boundary.ROUND + "row 3 8 2;").fullestHome(), 7));
         Boundary.test(33, BEHIND, "the home is the last bucket", () -> Boundary.due(Boundary.after(Boundary.ROUND).bucketOf(23), 1));
         Boundary.test(34, BEHIND, "the home is the last bucket", () -> Boundary.due(Boundary.after(Boundary.ROUND).valueOf(23), 3));
         Boundary.test(35, BEHIND, "the home is the last bucket", () -> Boundary.due(Boundary.after(Boundary.ROUND).distanceOf(23), 2));
@@ -349,8 +350,20 @@ final class TableCases {
             "1:1 2:17 3:33 4:49 5:65 6:81 7:6");
         Ways.placing(H_OR_MORE, "H-3 with H 6", "table 16 6 1;row 1 16 3;add 4 1;add 20 1;add 6 1;", 49, 4, 16, 1, 1,
             "1:1 2:17 3:33 4:49 5:20 6:6 7:4");
+        Ways.placing(H_OR_MORE, "the distance H in 64 buckets, which cannot grow", "table 64 2 1;row 1 1 2;", 65, 2, 64, 1, 1, "1:1 2:65 3:2");
+        Ways.placing(H_OR_MORE, "far more than H in 64 buckets", "table 64 6 1;row 1 1 20;row 21 1 20;", 65, 6, 64, 7, 7,
+            "1:1 2:2 3:3 4:4 5:5 6:65 " + farDisplaced());
         // Bucket 1, at the distance 2, is a home, but bucket 2, at the distance 1, is none.
         Ways.placing(H_OR_MORE, "not the one at the distance H", "table 8 2 1;add 1 1;add 9 1;", 17, 2, 16, 0, 0, "1:1 2:17 9:9");
+    }
+
+    /** Of 6 to 40 each fifth has moved by five: 36 to 41, 31 to 36 and so on down to 6. */
+    private static String farDisplaced() {
+        StringBuilder places = new StringBuilder();
+        for (int b = 7; b <= 41; b++) {
+            places.append(b == 7 ? "" : " ").append(b).append(':').append(b % 5 == 1 ? b - 5 : b);
+        }
+        return places.toString();
     }
 
     private static void whichIsDisplaced() {
@@ -367,6 +380,10 @@ final class TableCases {
         // The home 2 has the buckets 3 and 4.
         Ways.placing(IN_FRONT, "of two entries at the distances 1 and 2 the nearer one", "table 16 4 1;row 1 16 2;row 2 16 2;", 33, 3, 16, 1, 1,
             "1:1 2:17 3:33 4:18 5:2");
+        Ways.placing(IN_FRONT, "a home of an entry behind it is passed over in 64 buckets, which cannot grow",
+            "table 64 4 1;row 0 64 3;add 3 1;add 4 1;add 66 1;remove 4;", 192, 3, 64, 1, 1, "0:0 1:64 2:128 3:192 4:3 5:66");
+        Ways.placing(MOVES_ON, "over two other entries", "table 16 4 1;row 1 1 4;", 17, 2, 16, 1, 1, "1:1 2:17 3:3 4:4 5:2");
+        Ways.placing(MOVES_ON, "again and again in 64 buckets, which cannot grow", "table 64 2 1;row 1 1 5;", 65, 2, 64, 4, 4, "1:1 2:65 3:2 4:3 5:4 6:5");
         Ways.placing(MOVES_ON, "again and again", "table 8 2 1;row 1 1 5;", 9, 2, 8, 4, 4, "1:1 2:9 3:2 4:3 5:4 6:5");
         Boundary.test(26, MOVES_ON, "with its value", () -> {
             NeighbourHash x = Boundary.after("table 8 2 1;add 1 11;add 2 12;add 3 13;add 9 19;");
@@ -394,8 +411,8 @@ final class TableCases {
     // ---- removing
 
     private static void removing() {
-        Ways.removing(FREED, "without pulling", "table 8 3 1;add 1 1;add 9 2;add 2 3;", 1, 0, "2:9 3:2");
-        Ways.removing(FREED, "the only entry, with pulling", "table 8 3 1;add 1 1;pull;", 1, 0, "");
+        Ways.freeing(FREED, "without pulling", "table 8 3 1;add 1 1;add 9 2;add 2 3;", 1, "2:9 3:2");
+        Ways.freeing(FREED, "the only entry, with pulling", "table 8 3 1;add 1 1;pull;", 1, "");
         Boundary.test(25, FREED, "its bucket", () -> Boundary.due(Boundary.after("table 8 3 1;add 1 1;remove 1;").keyAt(1), Boundary.NONE));
         Boundary.test(26, FREED, "its bucket", () -> Boundary.due(Boundary.after("table 8 3 1;add 1 1;remove 1;").valueAt(1), Boundary.NONE));
         Boundary.test(27, FREED, "its hop bit", () -> Boundary.due(Boundary.after("table 8 3 1;add 1 1;remove 1;").hopBits(1), 0));

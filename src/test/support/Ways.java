@@ -12,6 +12,14 @@ final class Ways {
      * "moves" the one of moves() after the adding.
      */
     static void placing(String sentence, String what, String setup, int key, int bucket, int buckets, int moved, int moves, String table) {
+        adding(sentence, what, setup, key, bucket, buckets, moves, table);
+        predicting(40, sentence, what, setup, x -> Boundary.due("whyNoAdd(" + key + ")", x.whyNoAdd(key), 0));
+        predicting(42, sentence, what, setup, x -> Boundary.due("movesFor(" + key + ")", x.movesFor(key), moved));
+        predicting(43, sentence, what, setup, x -> Boundary.due("bucketsAfter(" + key + ")", x.bucketsAfter(key), buckets));
+    }
+
+    /** Only what may be another one in another order of building: whether there is a place, and with how many buckets, is not. */
+    static void adding(String sentence, String what, String setup, int key, int bucket, int buckets, int moves, String table) {
         Boundary.test(5, sentence, what, () -> {
             NeighbourHash x = Boundary.after(setup);
             Boundary.due("add(" + key + ", 7)", x.add(key, 7), bucket);
@@ -32,10 +40,7 @@ final class Ways {
             placed(Boundary.after(setup + "put " + key + " 7;"), key, 7, bucket, buckets, moves, table);
             placed(Boundary.after(setup + "row " + key + " 1 1;"), key, 0, bucket, buckets, moves, table);
         });
-        predicting(40, sentence, what, setup, x -> Boundary.due("whyNoAdd(" + key + ")", x.whyNoAdd(key), 0));
         predicting(41, sentence, what, setup, x -> Boundary.due("placeFor(" + key + ")", x.placeFor(key), bucket));
-        predicting(42, sentence, what, setup, x -> Boundary.due("movesFor(" + key + ")", x.movesFor(key), moved));
-        predicting(43, sentence, what, setup, x -> Boundary.due("bucketsAfter(" + key + ")", x.bucketsAfter(key), buckets));
     }
 
     interface Question {
@@ -88,13 +93,7 @@ final class Ways {
 
     /** The key is removed, by remove and in a script, and its pulls are predicted and counted. */
     static void removing(String sentence, String what, String setup, int key, int pulls, String table) {
-        Boundary.test(8, sentence, what, () -> {
-            NeighbourHash x = Boundary.after(setup);
-            int value = x.valueOf(key);
-            Boundary.due("remove(" + key + ")", x.remove(key), value);
-            removed(x, key, table);
-        });
-        Boundary.test(4, sentence, what, () -> removed(Boundary.after(setup + "remove " + key + ";"), key, table));
+        freeing(sentence, what, setup, key, table);
         predicting(44, sentence, what, setup, x -> Boundary.due("pullsFor(" + key + ")", x.pullsFor(key), pulls));
         Boundary.test(48, sentence, what, () -> {
             NeighbourHash x = Boundary.after(setup);
@@ -102,6 +101,16 @@ final class Ways {
             x.remove(key);
             Boundary.due("pulls()", x.pulls(), before + pulls);
         });
+    }
+
+    static void freeing(String sentence, String what, String setup, int key, String table) {
+        Boundary.test(8, sentence, what, () -> {
+            NeighbourHash x = Boundary.after(setup);
+            int value = x.valueOf(key);
+            Boundary.due("remove(" + key + ")", x.remove(key), value);
+            removed(x, key, table);
+        });
+        Boundary.test(4, sentence, what, () -> removed(Boundary.after(setup + "remove " + key + ";"), key, table));
     }
 
     private static void removed(NeighbourHash x, int key, String table) {
@@ -112,13 +121,18 @@ final class Ways {
 
     /** The table is built anew with another neighbourhood. */
     static void nearing(String sentence, String what, String setup, int near, int buckets, int growths, int moves, String table) {
+        building(sentence, what, setup, near, buckets, growths, moves, table);
+        predicting(45, sentence, what, setup, x -> Boundary.due("bucketsWith(" + near + ")", x.bucketsWith(near), buckets));
+    }
+
+    /** Only what may be another one in another order of building. */
+    static void building(String sentence, String what, String setup, int near, int buckets, int growths, int moves, String table) {
         Boundary.test(9, sentence, what, () -> {
             NeighbourHash x = Boundary.after(setup);
             Boundary.due("setNeighbourhood(" + near + ")", x.setNeighbourhood(near), buckets);
             built(x, buckets, growths, moves, table);
         });
         Boundary.test(4, sentence, what, () -> built(Boundary.after(setup + "near " + near + ";"), buckets, growths, moves, table));
-        predicting(45, sentence, what, setup, x -> Boundary.due("bucketsWith(" + near + ")", x.bucketsWith(near), buckets));
     }
 
     static void timing(String sentence, String what, String setup, int times, int buckets, int growths, int moves, String table) {
@@ -163,12 +177,6 @@ final class Ways {
             Boundary.changesNothing(x, () -> Boundary.refused(() -> x.setMultiplier(times)));
         });
         Boundary.test(4, sentence, what, () -> ScriptCases.error(3, setup + "times " + times + "^;"));
-        predicting(46, sentence, what, setup, x -> {
-            if (times <= 30) {
-                int best = x.bestMultiplier(times);
-                Boundary.due("bestMultiplier(" + times + ") is not " + times, best != times, true);
-            }
-        });
     }
 
     static void notDoubled(String sentence, String what, String setup) {
