@@ -553,7 +553,9 @@ final class QuestionCases {
             + " those for the building included.";
         Question question = (x, none) -> x.moves();
         asked(47, moves, "without entries", EMPTY, question, 0, 0);
-        asked(47, moves, "one entry displaced twice counts twice", "table 16 3 1;row 1 1 6;add 17 1;", question, 0, 2);
+        asked(47, moves, "two entries of one change", "table 16 3 1;row 1 1 6;add 17 1;", question, 0, 2);
+        // The entry 3 goes from its home to the bucket 4 for the entry 33, and to the bucket 5 for the entry 2.
+        asked(47, moves, "one entry displaced twice counts twice", "table 16 3 1;row 1 16 2;row 3 30 2;add 2 1;", question, 0, 2);
         asked(47, moves, "the moves of several changes", "table 16 2 1;row 1 1 2;add 17 1;row 5 1 2;add 21 1;", question, 0, 2);
         asked(47, moves, "none since the building", "table 8 2 1;row 1 1 2;add 9 1;grow;", question, 0, 0);
         asked(47, moves, "those for the building", "table 8 3 1;row 1 1 2;add 9 1;near 2;", question, 0, 1);

@@ -28,6 +28,10 @@ final class TableCases {
     private static final String PULLED_AGAIN = "this entry is pulled into the free bucket, and the bucket where it was is the free bucket then,"
         + " for which the same is done again, until there is no such entry.";
 
+    /** Each bucket of 8 has an entry whose home lies two before it. */
+    private static final String ALL_TWO_AWAY = "table 8 6 1;row 0 1 8;remove 0;add 14 1;remove 1;add 15 1;remove 2;add 8 1;remove 3;add 9 1;"
+        + "remove 4;add 10 1;remove 5;add 11 1;remove 6;add 12 1;remove 7;add 13 1;";
+
     private TableCases() {
     }
 
@@ -433,6 +437,8 @@ final class TableCases {
         // Each entry lies one behind its home, but for the first.
         Ways.removing(PULLED_AGAIN, "as long as there is one", "table 16 2 1;row 1 16 2;row 2 1 9;pull;", 1, 10,
             "1:17 2:2 3:3 4:4 5:5 6:6 7:7 8:8 9:9 10:10");
+        Ways.removing(PULLED_AGAIN, "each entry twice, twice round the table", ALL_TWO_AWAY + "pull;", 14, 14,
+            "0:8 1:9 2:10 3:11 4:12 5:13 7:15");
         Boundary.test(26, PULLED_AGAIN, "with its value", () -> {
             NeighbourHash x = Boundary.after("table 8 3 1;add 1 11;add 9 19;add 2 12;pull;remove 1;");
             Boundary.due(x.valueAt(1) + " " + x.valueAt(2) + " " + x.valueAt(3), "19 12 -1");
